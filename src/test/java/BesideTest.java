@@ -82,6 +82,7 @@ public final class BesideTest {
     CHECK.same("a pulse 7 later, by a bound of 0", laid(pulse, 20, 80, 13, 80).best(0), 0);
     CHECK.same("all alike", laid("0", 0, 50, 0, 50).best(99), 0);
     CHECK.same("all alike at each, the least size", laid("0", 0, 10, 0, 200).best(99), 0);
+    CHECK.same("7 above, and fewer ahead of it and behind", growing().best(9), 7);
     CHECK.same("below 0 first", laid("01".repeat(30), 10, 20, 11, 20).best(3), -1);
     CHECK.same("none alike", laid("01111", 0, 1, 1, 1).best(9), 0);
     CHECK.same("one above", laid("0011", 2, 1, 1, 2).best(1), 1);
@@ -91,6 +92,11 @@ public final class BesideTest {
     CHECK.same("99 below", laid(late, 200, 100, 299, 1).best(99), -99);
     CHECK.same("99 below, by a bound of 98", laid(late, 200, 100, 299, 1).best(98), 0);
     refused();
+  }
+
+  /** The highs of both captures lie more and more upon each other up to the offset 7. */
+  private static Probehall growing() {
+    return laid("0".repeat(60) + "1".repeat(20) + "0".repeat(60), 27, 80, 20, 80);
   }
 
   private static void refused() {

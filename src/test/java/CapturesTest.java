@@ -80,6 +80,7 @@ public final class CapturesTest {
     CHECK.badNumber("step 100", y -> y.capture(0, 0, 100, 10));
     CHECK.badNumber("step 100 of one sample", y -> y.capture(0, 0, 100, 1));
     CHECK.badNumber("many 0", y -> y.capture(0, 0, 1, 0));
+    CHECK.badNumber("many 0 from 50 on", y -> y.capture(0, 50, 1, 0));
     CHECK.badNumber("many 401", y -> y.capture(0, 0, 1, 401));
     CHECK.badNumber("a last sample at 10000", y -> y.capture(0, 9601, 1, 400));
     CHECK.badNumber("a last sample far behind", y -> y.capture(0, 0, 99, 103));

@@ -20,6 +20,7 @@ public final class DecodingTest {
     decodeTwoRefused();
     decodeFour();
     decodeFourShort();
+    decodeFourUpToTheLast();
     decodeFourRefused();
     mostNotes();
     notes();
@@ -255,6 +256,15 @@ public final class DecodingTest {
     four("01".repeat(9) + "0", "1".repeat(19), "0".repeat(16) + "111", 0, "B1-15=255-");
   }
 
+  /** Behind the last sample there is nothing, not even a wire that falls. */
+  private static void decodeFourUpToTheLast() {
+    String high = "1".repeat(16);
+    String low = "0".repeat(16);
+    four("01".repeat(8), high, low, 1, "");
+    four("0" + "10".repeat(8), "1" + high, "0" + low, 1, "B2-16=255-");
+    four("10".repeat(8), high, low, 1, "B1-15=255-");
+  }
+
   private static void decodeFourRefused() {
     CHECK.noWire("decodeFour(2, ..)", x -> x.decodeFour(2, 0, 1, 2, 0));
     CHECK.noWire("decodeFour(-1, 0, 0, 0, 9)", x -> x.decodeFour(-1, 0, 0, 0, 9));
@@ -346,6 +356,7 @@ public final class DecodingTest {
     CHECK.same("behind an unanswered one", sets("S" + "000010101" + d + v + "1S" + a + d + v, 5, 3),
         "129");
     CHECK.same("the greatest", sets("S" + "111111100" + "000011110" + "111111110", 127, 15), "255");
+    CHECK.same("the least", sets("S" + "000000000" + "000000000" + v, 0, 0), "129");
     registersStay();
     CHECK.badNumber("register(-1, 0)", x -> x.register(-1, 0));
     CHECK.badNumber("register(128, 0)", x -> x.register(128, 0));
@@ -404,6 +415,9 @@ public final class DecodingTest {
     CHECK.same("7 and 5", x.follows(7, 5), 1);
     CHECK.same("5 and 7", x.follows(5, 7), 1);
     CHECK.same("5 and 5", x.follows(5, 5), 0);
+    Probehall most = Look.drawn("1" + ("0" + "1".repeat(9)).repeat(3));
+    most.decodeSerial(0, 0, 10, 'n');
+    CHECK.same("255 and 255", most.follows(255, 255), 2);
     Probehall y = drawnTwo("S000010100" + "1S" + "000000110" + "0E" + "1S" + "000000000");
     y.decodeTwo(0, 0, 1);
     CHECK.same("over a start", y.follows(10, 3), 1);

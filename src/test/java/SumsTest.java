@@ -71,6 +71,7 @@ public final class SumsTest {
     CHECK.same("share of 0010", Look.drawn("0010").highShare(0, 0), 0.25f);
     CHECK.same("share of 110", Look.drawn("110").highShare(0, 0), 2f / 3f);
     CHECK.same("share of 111", Look.drawn("111").highShare(0, 0), 1f);
+    CHECK.same("share of one sample", Look.drawn("1").highShare(0, 0), 1f);
     CHECK.same("share of another wire", Look.drawn("111").highShare(0, 3), 0f);
     CHECK.noWire("highShare(2, 0)", x -> x.highShare(2, 0));
     CHECK.noWire("highShare(-1, 0)", x -> x.highShare(-1, 0));
@@ -84,6 +85,7 @@ public final class SumsTest {
   private static void meanRun() {
     CHECK.same("mean of 0011101", Look.drawn("0011101").meanRun(0, 0), 1.75);
     CHECK.same("mean of 1100110", Look.drawn("1100110").meanRun(0, 0), 1.75);
+    CHECK.same("mean of 1", Look.drawn("1").meanRun(0, 0), 1.0);
     CHECK.same("mean of 10", Look.drawn("10").meanRun(0, 0), 1.0);
     CHECK.same("mean of 0011100", Look.drawn("0011100").meanRun(0, 0), 7.0 / 3.0);
     CHECK.same("mean of another wire", Look.drawn("0011101").meanRun(0, 1), 7.0);

@@ -115,6 +115,8 @@ public final class WiresTest {
     CHECK.same("the same glitch takes both away", x.glitch(0, 5, 5), 0);
     CHECK.same("glitch of 99 ticks up to the last", x.glitch(0, 9900, 99), 2);
     CHECK.same("level at its end", x.level(0, 9998) + " " + x.level(0, 9999), "true false");
+    CHECK.same("glitch from the tick 0 on", x.glitch(3, 0, 2), 2);
+    CHECK.same("its levels", Look.levels(x, 3, 0, 4), "1100");
     CHECK.noWire("glitch(4, 5, 3)", y -> y.glitch(4, 5, 3));
     CHECK.noWire("glitch(-1, -5, 0)", y -> y.glitch(-1, -5, 0));
     CHECK.badNumber("glitch(0, -1, 3)", y -> y.glitch(0, -1, 3));
@@ -151,6 +153,9 @@ public final class WiresTest {
     CHECK.same("flips at 50 thousandths", flipTicks(50), "[1000, 1052, 1105, 1157, 1210]");
     CHECK.same("flips at -50 thousandths", flipTicks(-50), "[1000, 1048, 1095, 1143, 1190]");
     CHECK.same("flips without drift", flipTicks(0), "[1000, 1050, 1100, 1150, 1200]");
+    Probehall slow = new Probehall();
+    slow.drift(50);
+    CHECK.same("a while of 2850 ticks", slow.twoWires(0, 1, 0, true, 0, 0, 7, 50), 7 + 2850 + 142);
     CHECK.same("flips at 19 thousandths", flipTicks(19), "[1000, 1050, 1101, 1152, 1203]");
   }
 
@@ -193,6 +198,8 @@ public final class WiresTest {
     CHECK.same("a byte again takes its flips away", y.flips(), 0);
     CHECK.same("50 ticks a bit, drift 20", driftedEnd(20, 50, 'o'), 100 + 550 + 11);
     CHECK.same("50 ticks a bit, drift -50", driftedEnd(-50, 50, 'n'), 100 + 500 - 25);
+    CHECK.same("999 thousandths a bit are cut", driftedEnd(37, 27, 'n'), 100 + 270 + 9);
+    CHECK.same("the same below 0", driftedEnd(-37, 27, 'n'), 100 + 270 - 9);
     CHECK.same("7 ticks a bit, drift -50", driftedEnd(-50, 7, 'n'), 100 + 70 - 3);
   }
 
@@ -337,6 +344,7 @@ public final class WiresTest {
     CHECK.same("the end by a drift below", x.fourWires(3, 0, 2, 178, 0, 50, 0), 850 - 42);
     CHECK.same("flips of no bits", flipsOf(0, 0), 18);
     CHECK.same("flips of one bit", flipsOf(1, 1), 20);
+    CHECK.same("flips of all bits", flipsOf(255, 0), 20);
   }
 
   private static int flipsOf(int value, int mode) {
