@@ -811,7 +811,7 @@ public final class Probehall {
     }
 
     boolean isHighAt(int wire, int sample) {
-      return hasBit(levelsAt(sample), wire);
+      return has(sample) && (levels[sample] >> wire & 1) == 1;
     }
 
     /** The first sample is never a change, as there is none ahead of it. */
@@ -820,11 +820,11 @@ public final class Probehall {
     }
 
     boolean risesAt(int wire, int sample) {
-      return changesAt(wire, sample) && isHighAt(wire, sample);
+      return sample > 0 && isHighAt(wire, sample) && !isHighAt(wire, sample - 1);
     }
 
     boolean fallsAt(int wire, int sample) {
-      return changesAt(wire, sample) && !isHighAt(wire, sample);
+      return sample > 0 && !isHighAt(wire, sample) && isHighAt(wire, sample - 1);
     }
 
     int changeCount() {
