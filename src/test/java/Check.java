@@ -1,9 +1,16 @@
+import java.io.IOException;
+import java.nio.file.Files;
+import java.nio.file.Path;
 import java.util.function.Consumer;
 import java.util.function.Supplier;
 
 /** Counts what a test checks, and tells what is not as it is due. */
 final class Check {
+  private static final Path DOCUMENT = Path.of("../shared/DOC.md");
+
   private final String name;
+  private String document = "";
+  private String sentence = "";
   private int checks;
   private int wrong;
 
@@ -11,11 +18,32 @@ final class Check {
     this.name = name;
   }
 
+  /**
+   * Names the words of the document that the checks behind this one are about. They are looked for
+   * in the document, so that a test of words that it no longer has is found.
+   */
+  void says(String words) {
+    if (document.isEmpty()) {
+      document = read(DOCUMENT).replaceAll("\\s+", " ");
+    }
+    sentence = "";
+    same("the document says: " + words, document.contains(words), true);
+    sentence = " [" + words + "]";
+  }
+
+  private static String read(Path file) {
+    try {
+      return Files.readString(file);
+    } catch (IOException e) {
+      return "nothing, as " + file + " can't be read";
+    }
+  }
+
   void same(String what, Object got, Object due) {
     checks++;
     if (!due.equals(got)) {
       wrong++;
-      System.out.println(name + ": " + what + " answered " + got + ", due is " + due);
+      System.out.println(name + ": " + what + " answered " + got + ", due is " + due + sentence);
     }
   }
 
