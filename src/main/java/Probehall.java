@@ -916,17 +916,23 @@ public final class Probehall {
     }
 
     boolean areChangesSeen(int wire) {
-      for (int i = 1; i < count; i++) {
-        if (changesAt(wire, i) && !isSeenByHalves(wire, i)) {
+      for (int degree = 0; degree <= MOST_DEGREE; degree++) {
+        if (!areChangesSeenBy(wire, degree)) {
           return false;
         }
       }
       return true;
     }
 
-    private boolean isSeenByHalves(int wire, int sample) {
-      for (int degree = 0; degree <= MOST_DEGREE; degree++) {
-        if (blockSign(wire, degree, sample >> degree) != 'x') {
+    /** Each block is looked at once, not once for each of its changes, as those may be many. */
+    private boolean areChangesSeenBy(int wire, int degree) {
+      int inBlock = (1 << degree) - 1;
+      char sign = 'x';
+      for (int i = 0; i < count; i++) {
+        if ((i & inBlock) == 0) {
+          sign = blockSign(wire, degree, i >> degree);
+        }
+        if (sign != 'x' && changesAt(wire, i)) {
           return false;
         }
       }
